@@ -5,6 +5,7 @@ public final class AccountTest {
         keysHaveBounds();
         whatIsLookedAtFirst();
         signaturesOfOtherThingsAreRefused();
+        theKeyItselfIsNoSignature();
         aClosedAccountIsRefused();
         aSeventhIsRefused();
         theNonceIsUsedUpByALateRefusal();
@@ -85,6 +86,19 @@ public final class AccountTest {
                     () -> c.x.account(1147, nonce, sig));
         }
         Check.answers("the right one", 0, () -> c.x.account(1147, nonce, right));
+    }
+
+    /** Where 0 is right the key is too but for its size; the nonce, not out, is looked at later. */
+    private static void theKeyItselfIsNoSignature() {
+        ChallengeAuthority x = new ChallengeAuthority(6);
+        int nonce = 0;
+        while (Sums.digest(1, 1147, nonce, 0, 0) % 1147 != 0) {
+            nonce++;
+        }
+        int met = nonce;
+        Check.refuses("0 is right", IllegalArgumentException.class, () -> x.account(1147, met, 0));
+        Check.refuses("the key is not", UnsupportedOperationException.class,
+                () -> x.account(1147, met, 1147));
     }
 
     private static void aClosedAccountIsRefused() {

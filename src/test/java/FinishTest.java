@@ -127,5 +127,6 @@ public final class FinishTest {
             Check.due("certificate " + i, c.finish(0, i), i);
         }
         Check.due("certificates", c.x.there(4), 12);
+        Check.due("all are published", c.x.publish(), 12);
     }
 }

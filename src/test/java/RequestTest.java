@@ -10,7 +10,7 @@ public final class RequestTest {
         sound("four names", 33345, Sums.request(KEY, 0, 6, 9, 15));
         sound("the highest key", 2, Sums.request(32767, 1));
         sound("a low key", 2, Sums.request(1001, 1));
-        everyShortSignatureWillDo();
+        signaturesOfEachLength();
         bytesThatAreWrong();
         numbersThatAreWrong();
         namesThatAreWrong();
@@ -39,18 +39,40 @@ public final class RequestTest {
         Check.refuses(what, IllegalArgumentException.class, () -> c.finish(0, 0));
     }
 
-    /** Signatures of one byte, of one that needs a 0 before it, and of two bytes. */
-    private static void everyShortSignatureWillDo() {
-        boolean[] met = new boolean[3];
-        for (int key = 1001; key < 6000; key += 2) {
-            int sig = Sums.sign(Sums.digest(9, key, 2), key);
-            int form = sig < 0 ? -1 : sig < 128 ? 0 : sig < 256 ? 1 : 2;
-            if (form >= 0 && !met[form]) {
-                met[form] = true;
-                sound("signature " + sig, 2, Sums.request(key, sig, new int[] {1}));
+    /** From 128 on the first byte needs a 0 before it, from 256 on not any more. */
+    private static void signaturesOfEachLength() {
+        withSignature(127, new int[][] {{127}}, new int[][] {{0, 127}, {0, 0, 127}});
+        withSignature(128, new int[][] {{0, 128}}, new int[][] {{128}, {0, 0, 128}});
+        withSignature(255, new int[][] {{0, 255}}, new int[][] {{255}, {0, 0, 0, 255}});
+        withSignature(256, new int[][] {{1, 0}}, new int[][] {{0, 1, 0}, {1, 0, 0}});
+        withSignature(0, new int[][] {{0}}, new int[][] {{}, {0, 0}});
+    }
+
+    private static void withSignature(int sig, int[][] right, int[][] wrong) {
+        int[] found = keyAndName(sig);
+        byte[] key = Sums.number(found[0]);
+        byte[] names = Sums.row(Sums.number(found[1]));
+        for (int[] bytes : right) {
+            sound("signature " + sig, 1 << found[1],
+                    Sums.row(key, names, Sums.tagged(2, Sums.bytes(bytes))));
+        }
+        for (int[] bytes : wrong) {
+            unsound("signature " + sig + " in " + bytes.length + " bytes", 1 << found[1],
+                    Sums.row(key, names, Sums.tagged(2, Sums.bytes(bytes))));
+        }
+    }
+
+    /** A key and a name whose request has this signature. */
+    private static int[] keyAndName(int sig) {
+        for (int key = 1000; key <= 32767; key++) {
+            int raised = Sums.power(sig, 17, key);
+            for (int name = 0; name < 16; name++) {
+                if (Sums.digest(9, key, 1 << name) % key == raised) {
+                    return new int[] {key, name};
+                }
             }
         }
-        Check.holds("signatures of each form were met", met[0] && met[1] && met[2]);
+        throw new IllegalStateException("no request has the signature " + sig);
     }
 
     /** Every single byte of a request matters. */
@@ -94,6 +116,10 @@ public final class RequestTest {
         unsound("name of no bytes", 2, built(key, emptyName, end));
         byte[] longName = Sums.row(Sums.tagged(2, Sums.bytes(0, 1)));
         unsound("name with a 0 too many", 2, built(key, longName, end));
+        byte[] wrapped = Sums.tagged(2, Sums.bytes(1, 0, 0, 0, 1));
+        unsound("name of five bytes that ends like name 1", 2, built(key, Sums.row(wrapped), end));
+        byte[] wrappedSig = Sums.tagged(2, Sums.bytes(1, 0, 0, sig >> 8, sig & 255));
+        unsound("signature of five bytes that ends right", 2, built(key, names, wrappedSig));
         unsound("a number too many", 2, built(key, names, end, Sums.number(1)));
         unsound("no signature", 2, Sums.row(key, names));
         unsound("no names", 2, Sums.row(key, end));

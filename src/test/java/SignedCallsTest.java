@@ -6,6 +6,8 @@ import java.util.NoSuchElementException;
 public final class SignedCallsTest {
     private static final int KEY = 10807;
     private static final int NEXT_KEY = 16637;
+    /** How many details each kind has. */
+    private static final int[] DETAILS = {2, 9, 3, 2, 5};
 
     /** A signed call: the ints that its signature is of, and the call with a signature. */
     private enum Signed {
@@ -218,7 +220,7 @@ public final class SignedCallsTest {
         for (int kind = 0; kind < there.length; kind++) {
             for (int k = 0; k < there[kind]; k++) {
                 all.append(' ').append(c.x.state(kind, k)).append(':');
-                for (int what = 0; what < 9; what++) {
+                for (int what = 0; what < DETAILS[kind]; what++) {
                     all.append(c.x.detail(kind, k, what)).append(',');
                 }
             }
