@@ -386,7 +386,7 @@ public final class ChallengeAuthority {
         return drawState >>> 8;
     }
 
-    /** What every signed call looks at first; the nonce is used up even if the call throws later. */
+    /** What a signed call looks at first; the nonce is used up even if the call throws later. */
     private void acceptSigned(int k, int nonce, int signed, int sig) {
         if (k < 0 || k >= accountCount) {
             throw new NoSuchElementException();
