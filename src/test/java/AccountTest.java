@@ -1,11 +1,9 @@
-/** Promise 5. */
+/** Promise 5; KeyTest and RefusedCallsTest look at keys and at the order of refusals. */
 public final class AccountTest {
     public static void main(String[] args) {
         numbersGoUpAndStay();
-        keysHaveBounds();
         whatIsLookedAtFirst();
         signaturesOfOtherThingsAreRefused();
-        theKeyItselfIsNoSignature();
         aClosedAccountIsRefused();
         aSeventhIsRefused();
         theNonceIsUsedUpByALateRefusal();
@@ -16,6 +14,7 @@ public final class AccountTest {
         return Sums.sign(Sums.digest(1, key, nonce, 0, 0), key);
     }
 
+    /** "a new one if there is none" */
     private static void numbersGoUpAndStay() {
         Client c = new Client(3);
         Check.due("first account", c.open(10807), 0);
@@ -27,27 +26,6 @@ public final class AccountTest {
         Check.due("key of the second", c.keyOf(1), 12317);
         Check.due("state of a new account", c.x.state(0, 1), 0);
         Check.due("orders of a new account", c.x.detail(0, 1, 1), 0);
-    }
-
-    private static void keysHaveBounds() {
-        Client c = new Client(4);
-        for (int key : new int[] {999, 32768, 0, -1147, Integer.MAX_VALUE, Integer.MIN_VALUE}) {
-            int nonce = c.x.nonce();
-            Check.refuses("key " + key, IllegalArgumentException.class,
-                    () -> c.x.account(key, nonce, 0));
-        }
-        Check.due("nonces still out", c.x.there(3), 6);
-        Check.due("the highest key", c.open(32767), 0);
-        Check.due("the lowest key", openLowest(c), 1);
-    }
-
-    /** Not every number has a signature under 1000, so nonces are drawn until one has. */
-    private static int openLowest(Client c) {
-        int nonce = c.x.nonce();
-        while (sign(1000, nonce) < 0) {
-            nonce = c.x.nonce();
-        }
-        return c.x.account(1000, nonce, sign(1000, nonce));
     }
 
     private static void whatIsLookedAtFirst() {
@@ -88,19 +66,7 @@ public final class AccountTest {
         Check.answers("the right one", 0, () -> c.x.account(1147, nonce, right));
     }
 
-    /** Where 0 is right the key is too but for its size; the nonce, not out, is looked at later. */
-    private static void theKeyItselfIsNoSignature() {
-        ChallengeAuthority x = new ChallengeAuthority(6);
-        int nonce = 0;
-        while (Sums.digest(1, 1147, nonce, 0, 0) % 1147 != 0) {
-            nonce++;
-        }
-        int met = nonce;
-        Check.refuses("0 is right", IllegalArgumentException.class, () -> x.account(1147, met, 0));
-        Check.refuses("the key is not", UnsupportedOperationException.class,
-                () -> x.account(1147, met, 1147));
-    }
-
+    /** "the account with this key is CLOSED" */
     private static void aClosedAccountIsRefused() {
         Client c = new Client(7);
         c.open(1147);
@@ -111,6 +77,7 @@ public final class AccountTest {
         Check.due("another key", c.open(10807), 1);
     }
 
+    /** "or there would be a seventh" */
     private static void aSeventhIsRefused() {
         Client c = new Client(8);
         for (int k = 0; k < 6; k++) {

@@ -32,6 +32,7 @@ public final class AnswerTest {
         Check.due("the order stays PENDING", c.x.state(1, 0), 0);
     }
 
+    /** "no authorization a or challenge which" */
     private static void whatThereIsNot() {
         Client c = scene();
         int[][] none = {
@@ -44,6 +45,7 @@ public final class AnswerTest {
         }
     }
 
+    /** "it is not the account's" */
     private static void anothersAuthorization() {
         Client c = scene();
         Check.refuses("another's", UnsupportedOperationException.class, () -> c.answer(0, 2, 0));
@@ -54,6 +56,7 @@ public final class AnswerTest {
         Check.refuses("its own", IllegalStateException.class, () -> c.answer(1, 2, 0));
     }
 
+    /** "it, or the challenge, is not PENDING" */
     private static void whatIsNotPending() {
         Client c = scene();
         c.answer(0, 0, 0);

@@ -45,6 +45,7 @@ public final class DeactivateTest {
         }
     }
 
+    /** "a = -1: the account becomes CLOSED, its PENDING and VALID authorizations DEACTIVATED" */
     private static void theWholeAccount() {
         Client c = new Client(113);
         c.open(10807);
@@ -66,6 +67,7 @@ public final class DeactivateTest {
         Check.due("an account with nothing", c.close(c.open(1147)), 0);
     }
 
+    /** "no authorization a" */
     private static void whatThereIsNot() {
         Client c = new Client(114);
         c.open(10807);
@@ -76,6 +78,7 @@ public final class DeactivateTest {
         }
     }
 
+    /** "it is not the account's" */
     private static void anothersAuthorization() {
         Client c = new Client(115);
         c.open(10807);
@@ -88,6 +91,7 @@ public final class DeactivateTest {
                 () -> c.deactivate(1, 0));
     }
 
+    /** "it is neither PENDING nor VALID" */
     private static void whatIsNeitherPendingNorValid() {
         Client c = new Client(116);
         c.open(10807);

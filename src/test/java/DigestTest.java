@@ -1,3 +1,5 @@
+import java.util.Random;
+
 /** Promise 4. */
 public final class DigestTest {
     private static final ChallengeAuthority X = new ChallengeAuthority(1);
@@ -13,6 +15,10 @@ public final class DigestTest {
             same(0, 0, 0, x, 0);
             same(0, 0, 0, 0, x);
             same(x, -x, x + 1, ~x, 7);
+        }
+        Random random = new Random(4);
+        for (int i = 0; i < 300; i++) {
+            same(random.nextInt(), random.nextInt(), random.nextInt(), random.nextInt(), i);
         }
         Check.end();
     }

@@ -64,6 +64,7 @@ public final class FinishTest {
         Check.answers("the text again", 0, () -> c.x.finish(0, nonce, 0, sig));
     }
 
+    /** "no order o" */
     private static void whatThereIsNot() {
         Client c = scene();
         for (int o : new int[] {-1, 1, 12, Integer.MAX_VALUE, Integer.MIN_VALUE}) {
@@ -71,6 +72,7 @@ public final class FinishTest {
         }
     }
 
+    /** "it is not the account's" */
     private static void anothersOrder() {
         Client c = scene();
         Check.refuses("another's", UnsupportedOperationException.class, () -> c.finish(1, 0));
@@ -81,6 +83,7 @@ public final class FinishTest {
         Check.due("the order stays READY", c.x.state(1, 0), 1);
     }
 
+    /** "it is not READY" */
     private static void whatIsNotReady() {
         Client c = scene();
         int pending = c.order(0, 4096, 50);
@@ -97,6 +100,7 @@ public final class FinishTest {
                 () -> c.finish(0, pending));
     }
 
+    /** "the text is no request, its names are not the order's, or its key is the account's" */
     private static void requestsThatDoNotFit() {
         Client c = scene();
         byte[][] texts = {
@@ -119,6 +123,7 @@ public final class FinishTest {
         Check.due("the key that it had", c.finish(0, 0), 0);
     }
 
+    /** As many as there can be: a 13th would need a 13th order. */
     private static void twelveCertificates() {
         Client c = scene();
         c.finish(0, 0);

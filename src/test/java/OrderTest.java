@@ -4,12 +4,15 @@ public final class OrderTest {
         anOrderHasAnAuthorizationForEachName();
         tokensAreDrawnInTurn();
         namesAndLifeHaveBounds();
+        eachNameCanBeOrdered();
+        oneToFourNamesCanBeOrdered();
         validAuthorizationsAreTakenAgain();
         theNewestValidOneIsTaken();
         otherAccountsAuthorizationsAreNotTaken();
-        pendingOnesAreNotTaken();
+        onesThatAreNotValidAreNotTaken();
         aThirteenthOrderIsRefused();
         aTwentyFifthAuthorizationIsRefused();
+        thereIsRoomForTheLastOnes();
         whatIsLookedAtFirst();
         Check.end();
     }
@@ -54,6 +57,7 @@ public final class OrderTest {
         Check.due("the nonce behind", after, drawing.nonce());
     }
 
+    /** "names is not the sum for 1 to 4 names, or life not 1 .. 100" */
     private static void namesAndLifeHaveBounds() {
         Client c = new Client(43);
         c.open(10807);
@@ -75,6 +79,49 @@ public final class OrderTest {
         Check.due("four names", c.order(0, 61440, 100), 2);
     }
 
+    /** "NAMES are 0 .. 15" */
+    private static void eachNameCanBeOrdered() {
+        for (int name = 0; name < 31; name++) {
+            Client c = new Client(53);
+            c.open(10807);
+            int names = 1 << name;
+            if (name < 16) {
+                Check.answers("an order of name " + name, 0, () -> c.order(0, names, 5));
+                Check.answers("the name it is for", name, () -> c.x.detail(2, 0, 1));
+            } else {
+                Check.refuses("an order of name " + name, IllegalArgumentException.class,
+                        () -> c.order(0, names, 5));
+            }
+        }
+    }
+
+    /** "the sum for 1 to 4 names": from each name on, so many in a row or all over. */
+    private static void oneToFourNamesCanBeOrdered() {
+        for (int step : new int[] {1, 3, 5}) {
+            for (int many = 0; many <= 8; many++) {
+                for (int from = 0; from < 16; from++) {
+                    int names = 0;
+                    for (int i = 0; i < many; i++) {
+                        names |= 1 << (from + i * step) % 16;
+                    }
+                    ordered(names, many);
+                }
+            }
+        }
+    }
+
+    private static void ordered(int names, int many) {
+        Client c = new Client(54);
+        c.open(10807);
+        if (many >= 1 && many <= 4) {
+            Check.answers("an order of " + names, 0, () -> c.order(0, names, 5));
+            Check.answers("its authorizations", many, () -> c.x.detail(1, 0, 4));
+        } else {
+            Check.refuses("an order of " + names, IllegalArgumentException.class,
+                    () -> c.order(0, names, 5));
+        }
+    }
+
     private static void validAuthorizationsAreTakenAgain() {
         Client c = new Client(44);
         c.open(10807);
@@ -93,6 +140,7 @@ public final class OrderTest {
         Check.due("one that is not VALID any more is not taken", c.x.detail(1, anew, 5), 3);
     }
 
+    /** "the newest of this account for the name that is VALID" */
     private static void theNewestValidOneIsTaken() {
         Client c = new Client(45);
         c.open(10807);
@@ -121,13 +169,26 @@ public final class OrderTest {
         Check.due("and PENDING", c.x.state(1, o), 0);
     }
 
-    private static void pendingOnesAreNotTaken() {
+    /** "or else a new one" */
+    private static void onesThatAreNotValidAreNotTaken() {
         Client c = new Client(47);
         c.open(10807);
         c.order(0, 1, 90);
-        Check.due("a second one", c.x.detail(1, c.order(0, 1, 90), 5), 1);
+        Check.due("not a PENDING one", c.x.detail(1, c.order(0, 1, 9), 5), 1);
+        c.x.tick(9);
+        Check.due("not an INVALID one", c.x.detail(1, c.order(0, 1, 90), 5), 2);
+        c.prove(0, 2);
+        c.deactivate(0, 2);
+        Check.due("not a DEACTIVATED one", c.x.detail(1, c.order(0, 1, 90), 5), 3);
+        c.prove(0, 3);
+        c.x.tick(39);
+        Check.due("a VALID one until its time", c.x.detail(1, c.order(0, 1, 90), 5), 3);
+        c.x.tick(1);
+        Check.due("not an EXPIRED one", c.x.detail(1, c.order(0, 1, 90), 5), 4);
+        Check.due("and one for another name", c.x.detail(1, c.order(0, 2, 90), 5), 5);
     }
 
+    /** "there would be too many orders" */
     private static void aThirteenthOrderIsRefused() {
         Client c = new Client(48);
         c.open(10807);
@@ -139,6 +200,7 @@ public final class OrderTest {
         Check.due("authorizations", c.x.there(2), 12);
     }
 
+    /** "or authorizations"; only new ones count. */
     private static void aTwentyFifthAuthorizationIsRefused() {
         Client c = new Client(49);
         c.open(10807);
@@ -155,6 +217,31 @@ public final class OrderTest {
         Check.refuses("one more", IllegalStateException.class, () -> c.order(0, 2, 90));
         Check.due("none more", c.order(0, 1, 90), 7);
         Check.due("the nonce is as if nothing was drawn", c.x.nonce(), drawnAfter(c, 49));
+    }
+
+    /** Whether 1 or 4 are new: up to 24 in all, and not up to 25. */
+    private static void thereIsRoomForTheLastOnes() {
+        for (int anew = 1; anew <= 4; anew++) {
+            int names = (1 << anew) - 1;
+            Client fits = withAuthorizations(24 - anew);
+            int o = fits.x.there(1);
+            Check.due(anew + " up to 24", fits.order(0, names, 50), o);
+            Check.due("authorizations", fits.x.there(2), 24);
+            Check.due("the last of them", fits.x.detail(1, o, 4 + anew), 23);
+            Client full = withAuthorizations(25 - anew);
+            Check.refuses(anew + " up to 25", IllegalStateException.class,
+                    () -> full.order(0, names, 50));
+            Check.due("authorizations", full.x.there(2), 25 - anew);
+        }
+    }
+
+    private static Client withAuthorizations(int many) {
+        Client c = new Client(52);
+        c.open(10807);
+        for (int left = many; left > 0; left -= 4) {
+            c.order(0, (1 << Math.min(left, 4)) - 1, 50);
+        }
+        return c;
     }
 
     /** Each order, account or answer so far took a nonce, each authorization two tokens. */

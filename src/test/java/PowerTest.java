@@ -17,10 +17,17 @@ public final class PowerTest {
         for (int e : exponents) {
             same(31, e, 12317);
         }
-        refused(-1, 1, 1147);
-        refused(Integer.MIN_VALUE, 1, 1147);
-        refused(1, -1, 1147);
-        refused(1, Integer.MIN_VALUE, 1147);
+        for (int e : exponents) {
+            refused(-1, e, 1147);
+            refused(-1147, e, 1147);
+            refused(Integer.MIN_VALUE, e, 1147);
+        }
+        for (int b : bases) {
+            refused(b, -1, 1147);
+            refused(b, Integer.MIN_VALUE, 1147);
+        }
+        refused(-1, -1, 1147);
+        refused(-1, 1, 999);
         for (int n : new int[] {999, 32768, 1, 0, -1, -1147, Integer.MAX_VALUE, Integer.MIN_VALUE}) {
             refused(2, 2, n);
         }

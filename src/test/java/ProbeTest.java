@@ -1,6 +1,4 @@
-import java.util.NoSuchElementException;
-
-/** Promise 8. */
+/** Promise 8; RefusedCallsTest looks at what it throws. */
 public final class ProbeTest {
     public static void main(String[] args) {
         aRightOneMakesValid();
@@ -8,8 +6,8 @@ public final class ProbeTest {
         theThirdWrongOneMakesInvalid();
         wrongOnesAreCountedForEachChallenge();
         thePresentKeyCounts();
-        whatThereIsNot();
-        whatIsNotProcessingOrPending();
+        whatIsNearlyRightIsWrong();
+        validOnesLastForty();
         Check.end();
     }
 
@@ -49,6 +47,7 @@ public final class ProbeTest {
         Check.refuses("challenge 0 then", IllegalStateException.class, () -> c.meet(0, 0));
     }
 
+    /** "with the third for this challenge this and the authorization become INVALID" */
     private static void theThirdWrongOneMakesInvalid() {
         Client c = scene();
         c.answer(0, 0, 0);
@@ -69,6 +68,7 @@ public final class ProbeTest {
         Check.due("the order stays INVALID", c.x.state(1, 0), 4);
     }
 
+    /** "for this challenge" */
     private static void wrongOnesAreCountedForEachChallenge() {
         Client c = scene();
         c.answer(0, 0, 0);
@@ -80,6 +80,7 @@ public final class ProbeTest {
         Check.due("then a right one", c.meet(0, 0), 1);
     }
 
+    /** "the present key of the account" */
     private static void thePresentKeyCounts() {
         Client c = scene();
         c.answer(0, 0, 0);
@@ -89,29 +90,40 @@ public final class ProbeTest {
         Check.due("with the present key", c.meet(0, 0), 1);
     }
 
-    private static void whatThereIsNot() {
-        Client c = scene();
-        int[][] none = {
-            {-1, 0}, {2, 0}, {24, 1}, {0, -1}, {0, 2}, {1, 2}, {1, -1},
-            {Integer.MAX_VALUE, 0}, {Integer.MIN_VALUE, 0}, {1, Integer.MAX_VALUE}
+    /** "If found is the digest ...": nothing that is nearly so will do. */
+    private static void whatIsNearlyRightIsWrong() {
+        Client same = scene();
+        int token = same.x.detail(3, 0, 0);
+        int right = same.due(0, 0);
+        int[] wrong = {
+            right + 1, right - 1, right | Integer.MIN_VALUE, right % 10807, 0, -1, token,
+            Sums.digest(8, token, 10807), Sums.digest(8, token, 0, 0, 0),
+            Sums.digest(8, 10807, token, 0, 0), Sums.digest(7, token, 10807, 0, 0),
+            Sums.digest(8, token, 10807, 0, 1), Sums.digest(8, token, 10807, 1, 0)
         };
-        for (int[] one : none) {
-            Check.refuses("probe " + one[0] + ", " + one[1], NoSuchElementException.class,
-                    () -> c.x.probe(one[0], one[1], 0));
+        for (int found : wrong) {
+            Client c = scene();
+            c.answer(0, 0, 0);
+            Check.answers("found " + found, 0, () -> c.x.probe(0, 0, found));
+            Check.due("it is a wrong one", c.x.detail(3, 0, 1), 1);
         }
     }
 
-    private static void whatIsNotProcessingOrPending() {
-        Client c = scene();
-        Check.refuses("PENDING challenge", IllegalStateException.class, () -> c.meet(0, 0));
-        Check.refuses("PENDING challenge, wrong", IllegalStateException.class, () -> c.miss(0, 0));
-        Check.due("not counted", c.x.detail(3, 0, 1), 0);
-        c.prove(0, 0);
-        Check.refuses("VALID challenge", IllegalStateException.class, () -> c.meet(0, 0));
-        c.answer(0, 1, 0);
-        c.deactivate(0, 1);
-        Check.due("still PROCESSING", c.x.state(3, 2), 1);
-        Check.refuses("DEACTIVATED authorization", IllegalStateException.class, () -> c.meet(1, 0));
-        Check.due("still DEACTIVATED", c.x.state(2, 1), 3);
+    /** "it expires at the time + 40", be that later than before, or sooner. */
+    private static void validOnesLastForty() {
+        for (int life : new int[] {1, 39, 40, 41, 100}) {
+            Client c = new Client(62);
+            c.open(10807);
+            c.x.tick(3);
+            c.order(0, 1, life);
+            Check.due("before", c.x.detail(2, 0, 2), 3 + life);
+            c.prove(0, 0);
+            Check.due("after a life of " + life, c.x.detail(2, 0, 2), 43);
+            Check.due("the order's end stays", c.x.detail(1, 0, 2), 3 + life);
+            c.x.tick(39);
+            Check.due("VALID at 42", c.x.state(2, 0), 1);
+            c.x.tick(1);
+            Check.due("EXPIRED at 43", c.x.state(2, 0), 4);
+        }
     }
 }

@@ -98,6 +98,7 @@ public final class RequestTest {
         return Sums.row(key, names, sig, behind);
     }
 
+    /** "the length 1 to 4 of its contents", "as few as possible" */
     private static void numbersThatAreWrong() {
         int sig = Sums.sign(Sums.digest(9, KEY, 2), KEY);
         byte[] key = Sums.number(KEY);
@@ -129,6 +130,7 @@ public final class RequestTest {
         unsound("another tag for the row", 2, built(key, Sums.tagged(49, Sums.number(1)), end));
     }
 
+    /** "one or more numbers, the names, each greater than the one before" */
     private static void namesThatAreWrong() {
         int[][] wrong = {{2, 1}, {1, 1}, {1, 2, 2}, {1, 2, 1}, {1, 2, 16}, {1, 2, 33}, {1, 258}};
         for (int[] names : wrong) {
@@ -143,6 +145,7 @@ public final class RequestTest {
                 Sums.request(KEY, Sums.sign(Sums.digest(9, KEY, 1), KEY), new int[] {32}));
     }
 
+    /** "A LENGTH is one byte, 0 to 127, or for 128 to 255 the byte 129 and then the length." */
     private static void lengthsThatAreWrong() {
         byte[] right = Sums.request(KEY, 1);
         byte[] contents = Arrays.copyOfRange(right, 2, right.length);
@@ -166,6 +169,7 @@ public final class RequestTest {
                 Sums.row(key, Sums.bytes(48, 4, 2, 129, 1, 1), sig));
     }
 
+    /** "a number, the key n" */
     private static void keysThatAreNone() {
         for (int key : new int[] {0, 1, 999, 32768, 65537, 1 << 24, Integer.MAX_VALUE}) {
             int sig = key < 1 || key > 70000 ? 0 : Math.max(0, Sums.sign(Sums.digest(9, key, 2), key));
@@ -173,6 +177,7 @@ public final class RequestTest {
         }
     }
 
+    /** "a signature that is right under n for the digest of three ints" */
     private static void signaturesThatAreWrong() {
         int right = Sums.sign(Sums.digest(9, KEY, 2), KEY);
         int[] wrong = {

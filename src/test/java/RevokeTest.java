@@ -5,6 +5,7 @@ public final class RevokeTest {
     public static void main(String[] args) {
         theOwnerRevokes();
         whoeverHasTheNamesRevokes();
+        everyNameCounts();
         whatThereIsNot();
         reasonsHaveBounds();
         ordersThatAreNotValid();
@@ -42,6 +43,7 @@ public final class RevokeTest {
         Check.due("the owner needs no authorizations", c.revoke(0, 2, 1), 0);
     }
 
+    /** "its order is another account's, and not for all its names ... VALID" */
     private static void whoeverHasTheNamesRevokes() {
         Client c = scene();
         Check.refuses("no names", UnsupportedOperationException.class, () -> c.revoke(1, 0, 0));
@@ -64,6 +66,25 @@ public final class RevokeTest {
                 () -> c.revoke(1, 1, 0));
     }
 
+    /** "not for all its names": whichever of four is missing. */
+    private static void everyNameCounts() {
+        int[] names = {0, 7, 8, 15};
+        for (int missing = 0; missing < names.length; missing++) {
+            Client c = new Client(102);
+            c.open(10807);
+            c.open(12317);
+            c.certify(0, 16637, names);
+            c.x.publish();
+            int all = Sums.sum(names);
+            c.ready(1, all - (1 << names[missing]), 100);
+            Check.refuses("without name " + names[missing], UnsupportedOperationException.class,
+                    () -> c.revoke(1, 0, 0));
+            c.ready(1, 1 << names[missing], 100);
+            Check.due("with it too", c.revoke(1, 0, 0), 0);
+        }
+    }
+
+    /** "no certificate c" */
     private static void whatThereIsNot() {
         Client c = scene();
         for (int one : new int[] {-1, 2, 12, Integer.MAX_VALUE, Integer.MIN_VALUE}) {
@@ -74,6 +95,7 @@ public final class RevokeTest {
         }
     }
 
+    /** "reason is not 0 .. 10" */
     private static void reasonsHaveBounds() {
         Client c = scene();
         for (int reason : new int[] {-1, 11, Integer.MAX_VALUE, Integer.MIN_VALUE}) {
@@ -81,8 +103,13 @@ public final class RevokeTest {
                     () -> c.revoke(0, 0, reason));
         }
         Check.due("it stays GOOD", c.x.state(4, 0), 0);
+        Check.due("the lowest", c.revoke(0, 0, 0), 1);
+        Check.due("it is told", c.x.detail(4, 0, 4), 0);
+        Check.due("the highest", c.revoke(0, 1, 10), 0);
+        Check.due("it is told", c.x.detail(4, 1, 4), 10);
     }
 
+    /** "or its order not VALID" */
     private static void ordersThatAreNotValid() {
         Client c = scene();
         c.certify(0, 16637, 9);

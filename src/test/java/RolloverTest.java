@@ -40,6 +40,7 @@ public final class RolloverTest {
         Check.due("and on", c.rollover(0, NEW), 32767);
     }
 
+    /** "key is none" */
     private static void whatIsNoKey() {
         Client c = scene();
         for (int key : new int[] {999, 32768, 0, -1, Integer.MAX_VALUE, Integer.MIN_VALUE}) {
@@ -48,6 +49,7 @@ public final class RolloverTest {
         Check.due("the key stays", c.keyOf(0), OLD);
     }
 
+    /** "sig2 is not right under it for the same digest" */
     private static void theSecondSignatureIsWrong() {
         Client c = scene();
         int nonce = c.x.nonce();
@@ -80,6 +82,7 @@ public final class RolloverTest {
         return c.x.rollover(0, nonce, NEW, Sums.sign(d, OLD), Sums.sign(d, NEW) + NEW);
     }
 
+    /** "an account has it", be it CLOSED or the very account. */
     private static void anAccountHasIt() {
         Client c = scene();
         Check.refuses("another's", IllegalStateException.class, () -> c.rollover(0, 12317));

@@ -1,230 +1,207 @@
-import java.util.ArrayList;
-import java.util.List;
-import java.util.NoSuchElementException;
-
-/** What promises 6, 7, 9, 11, 12 and 13 have in common: each is a signed call. */
+/** What promises 6, 7, 9, 11, 12 and 13 have in common: each is a SIGNED call (Terms). */
 public final class SignedCallsTest {
-    private static final int KEY = 10807;
-    private static final int NEXT_KEY = 16637;
-    /** How many details each kind has. */
-    private static final int[] DETAILS = {2, 9, 3, 2, 5};
+    private static final int KEY = World.OWNER_KEY;
+    /** With this seed the second and the fourth nonce are the same, and the third is not. */
+    private static final int SEED_OF_TWINS = 1204367290;
 
-    /** A signed call: the ints that its signature is of, and the call with a signature. */
+    /** A call in the world of World: the ints that its signature is of, and the call itself. */
     private enum Signed {
         ORDER {
-            int[] ints(Client c, int k, int nonce) {
-                return new int[] {2, k, nonce, 64, 7};
+            int[] ints(Client c, int nonce) {
+                return new int[] {2, World.OWNER, nonce, 64, 7};
             }
 
-            int call(Client c, int k, int nonce, int sig) {
-                return c.x.order(k, nonce, 64, 7, sig);
+            int call(Client c, int nonce, int sig) {
+                return c.x.order(World.OWNER, nonce, 64, 7, sig);
+            }
+
+            int by(Client c, int k) {
+                return c.order(k, 64, 7);
             }
         },
         ANSWER {
-            int[] ints(Client c, int k, int nonce) {
-                return new int[] {3, k, nonce, 1, 1};
+            int[] ints(Client c, int nonce) {
+                return new int[] {3, World.OWNER, nonce, World.PENDING, 1};
             }
 
-            int call(Client c, int k, int nonce, int sig) {
-                return c.x.answer(k, nonce, 1, 1, sig);
+            int call(Client c, int nonce, int sig) {
+                return c.x.answer(World.OWNER, nonce, World.PENDING, 1, sig);
+            }
+
+            int by(Client c, int k) {
+                return c.answer(k, World.PENDING, 1);
             }
         },
         FINISH {
-            int[] ints(Client c, int k, int nonce) {
-                return new int[] {4, k, nonce, 0, c.x.csr()};
+            int[] ints(Client c, int nonce) {
+                return new int[] {4, World.OWNER, nonce, World.READY_ORDER, c.x.csr()};
             }
 
-            int call(Client c, int k, int nonce, int sig) {
-                return c.x.finish(k, nonce, 0, sig);
+            int call(Client c, int nonce, int sig) {
+                return c.x.finish(World.OWNER, nonce, World.READY_ORDER, sig);
+            }
+
+            int by(Client c, int k) {
+                return c.finish(k, World.READY_ORDER);
             }
         },
         REVOKE {
-            int[] ints(Client c, int k, int nonce) {
-                return new int[] {5, k, nonce, 0, 3};
+            int[] ints(Client c, int nonce) {
+                return new int[] {5, World.OWNER, nonce, World.GOOD_CERTIFICATE, 3};
             }
 
-            int call(Client c, int k, int nonce, int sig) {
-                return c.x.revoke(k, nonce, 0, 3, sig);
+            int call(Client c, int nonce, int sig) {
+                return c.x.revoke(World.OWNER, nonce, World.GOOD_CERTIFICATE, 3, sig);
+            }
+
+            int by(Client c, int k) {
+                return c.revoke(k, World.GOOD_CERTIFICATE, 3);
             }
         },
         DEACTIVATE {
-            int[] ints(Client c, int k, int nonce) {
-                return new int[] {6, k, nonce, 1, 0};
+            int[] ints(Client c, int nonce) {
+                return new int[] {6, World.OWNER, nonce, World.PENDING, 0};
             }
 
-            int call(Client c, int k, int nonce, int sig) {
-                return c.x.deactivate(k, nonce, 1, sig);
+            int call(Client c, int nonce, int sig) {
+                return c.x.deactivate(World.OWNER, nonce, World.PENDING, sig);
+            }
+
+            int by(Client c, int k) {
+                return c.deactivate(k, World.PENDING);
+            }
+        },
+        CLOSE {
+            int[] ints(Client c, int nonce) {
+                return new int[] {6, World.OWNER, nonce, -1, 0};
+            }
+
+            int call(Client c, int nonce, int sig) {
+                return c.x.deactivate(World.OWNER, nonce, -1, sig);
+            }
+
+            int by(Client c, int k) {
+                return c.close(k);
             }
         },
         ROLLOVER {
-            int[] ints(Client c, int k, int nonce) {
-                return new int[] {7, k, nonce, NEXT_KEY, 0};
+            int[] ints(Client c, int nonce) {
+                return new int[] {7, World.OWNER, nonce, World.FREE_KEY, 0};
             }
 
-            int call(Client c, int k, int nonce, int sig) {
-                int sig2 = Sums.sign(Sums.digest(7, k, nonce, NEXT_KEY, 0), NEXT_KEY);
-                return c.x.rollover(k, nonce, NEXT_KEY, sig, sig2);
+            int call(Client c, int nonce, int sig) {
+                int sig2 = Sums.sign(Sums.digest(ints(c, nonce)), World.FREE_KEY);
+                return c.x.rollover(World.OWNER, nonce, World.FREE_KEY, sig, sig2);
+            }
+
+            int by(Client c, int k) {
+                return c.rollover(k, World.FREE_KEY);
             }
         };
 
-        abstract int[] ints(Client c, int k, int nonce);
+        abstract int[] ints(Client c, int nonce);
 
-        abstract int call(Client c, int k, int nonce, int sig);
+        abstract int call(Client c, int nonce, int sig);
 
-        int sign(Client c, int k, int nonce) {
-            return Sums.sign(Sums.digest(ints(c, k, nonce)), KEY);
+        /** The same call by account k, signed under its key. */
+        abstract int by(Client c, int k);
+
+        int sign(Client c, int nonce) {
+            return Sums.sign(Sums.digest(ints(c, nonce)), KEY);
         }
     }
 
     public static void main(String[] args) {
         for (Signed signed : Signed.values()) {
             aRightOneUsesItsNonceUp(signed);
-            thereIsNoSuchAccount(signed);
-            theAccountIsClosed(signed);
+            Refusal.inWorld().beforeNonce(signed.toString(), World.OWNER, signed::by);
+            noAccountHasANumberOutOfBounds(signed);
             theSignatureIsOfSomethingElse(signed);
             theSignatureIsOutOfBounds(signed);
             theNonceIsNotOut(signed);
         }
-        lateRefusalsChangeNothingButTheNonce();
+        ofTwinsTheOlderGoes();
         Check.end();
     }
 
-    /** Account 0 with an order that is READY or, for revoke, VALID, and one that is PENDING. */
-    private static Client scene(Signed signed) {
-        Client c = new Client(31);
-        c.open(KEY);
-        if (signed == Signed.REVOKE) {
-            c.certify(0, 12317, 5);
-            c.x.publish();
-        } else {
-            c.ready(0, 32, 50);
-            c.text(Sums.request(12317, 5));
-        }
-        c.order(0, 8, 50);
-        return c;
-    }
-
     private static void aRightOneUsesItsNonceUp(Signed signed) {
-        Client c = scene(signed);
-        int older = c.x.nonce();
-        int nonce = c.x.nonce();
-        Check.holds(signed + " is accepted", signed.call(c, 0, nonce, signed.sign(c, 0, nonce)) >= 0);
-        Check.due(signed + " uses one nonce up", c.x.there(3), 1);
-        Check.refuses(signed + " with its nonce again", refusalOfUsedNonce(signed),
-                () -> signed.call(c, 0, nonce, signed.sign(c, 0, nonce)));
-        Check.answers("the other nonce is out", 0, () -> c.x.account(c.keyOf(0), older,
-                Sums.sign(Sums.digest(1, c.keyOf(0), older, 0, 0), c.keyOf(0))));
+        Client c = World.make();
+        int nonce = c.nonce();
+        int younger = c.nonce();
+        int sig = signed.sign(c, nonce);
+        Check.holds(signed + " is accepted", signed.call(c, nonce, sig) >= 0);
+        Check.due(signed + " uses one nonce up", c.x.there(3), 3);
+        Check.holds(signed + " leaves no such nonce out", !c.takes(nonce));
+        Check.holds(signed + " leaves the younger one out", c.takes(younger));
+        Check.due("the two older ones are out too", c.x.there(3), 2);
     }
 
-    /** After a rollover the signature, under the key before, is wrong in the first place. */
-    private static Class<? extends RuntimeException> refusalOfUsedNonce(Signed signed) {
-        return signed == Signed.ROLLOVER
-                ? UnsupportedOperationException.class
-                : IllegalArgumentException.class;
-    }
-
-    private static void thereIsNoSuchAccount(Signed signed) {
-        Client c = scene(signed);
-        int nonce = c.x.nonce();
-        for (int k : new int[] {-1, 1, 6, Integer.MAX_VALUE, Integer.MIN_VALUE}) {
-            Check.refuses(signed + " of account " + k, NoSuchElementException.class,
-                    () -> signed.call(c, k, nonce, signed.sign(c, k, nonce)));
-            Check.refuses(signed + " of account " + k + ", all wrong", NoSuchElementException.class,
-                    () -> signed.call(c, k, nonce + 1, -1));
+    private static void noAccountHasANumberOutOfBounds(Signed signed) {
+        for (int k : new int[] {6, Integer.MAX_VALUE, Integer.MIN_VALUE}) {
+            Refusal.inWorld().early(signed + " by account " + k, Refusal.NO_SUCH,
+                    Client.Fault.NONE, c -> signed.by(c, k));
         }
-        Check.due(signed + ": the nonce is still out", c.x.there(3), 1);
-    }
-
-    private static void theAccountIsClosed(Signed signed) {
-        Client c = scene(signed);
-        c.close(0);
-        int nonce = c.x.nonce();
-        Check.refuses(signed + " of a closed account", UnsupportedOperationException.class,
-                () -> signed.call(c, 0, nonce, signed.sign(c, 0, nonce)));
-        Check.refuses(signed + " of a closed account, no nonce", UnsupportedOperationException.class,
-                () -> signed.call(c, 0, nonce + 1, signed.sign(c, 0, nonce + 1)));
-        Check.due(signed + ": the nonce is still out", c.x.there(3), 1);
     }
 
     private static void theSignatureIsOfSomethingElse(Signed signed) {
-        Client c = scene(signed);
-        int nonce = c.x.nonce();
+        Client c = World.make();
+        int nonce = c.nonce();
         for (int i = 0; i < 5; i++) {
-            int[] ints = signed.ints(c, 0, nonce);
+            int[] ints = signed.ints(c, nonce);
             ints[i]++;
             int sig = Sums.sign(Sums.digest(ints), KEY);
-            Check.refuses(signed + " signed with another int " + i,
-                    UnsupportedOperationException.class, () -> signed.call(c, 0, nonce, sig));
+            Check.refuses(signed + " signed with another int " + i, Refusal.UNSUPPORTED,
+                    () -> signed.call(c, nonce, sig));
         }
-        int sig = signed.sign(c, 0, nonce);
-        Check.refuses(signed + " with a wrong signature and no nonce",
-                UnsupportedOperationException.class, () -> signed.call(c, 0, nonce + 1, sig));
-        Check.due(signed + ": the nonce is still out", c.x.there(3), 1);
+        int another = Sums.sign(Sums.digest(signed.ints(c, nonce)), World.OTHER_KEY);
+        Check.refuses(signed + " signed under another's key", Refusal.UNSUPPORTED,
+                () -> signed.call(c, nonce, another));
+        Check.due(signed + ": the nonces are still out", c.x.there(3), 3);
     }
 
     private static void theSignatureIsOutOfBounds(Signed signed) {
-        Client c = scene(signed);
-        int nonce = c.x.nonce();
-        int right = signed.sign(c, 0, nonce);
-        for (int sig : new int[] {right + KEY, right - KEY, -1, KEY, Integer.MAX_VALUE}) {
-            Check.refuses(signed + " with signature " + sig,
-                    UnsupportedOperationException.class, () -> signed.call(c, 0, nonce, sig));
+        Client c = World.make();
+        int nonce = c.nonce();
+        int right = signed.sign(c, nonce);
+        int[] wrong = {
+            right + KEY, right - KEY, right + 2 * KEY, -1, KEY, Integer.MAX_VALUE, Integer.MIN_VALUE
+        };
+        for (int sig : wrong) {
+            Check.refuses(signed + " with signature " + sig, Refusal.UNSUPPORTED,
+                    () -> signed.call(c, nonce, sig));
         }
-        Check.due(signed + ": the nonce is still out", c.x.there(3), 1);
+        Check.due(signed + ": the nonces are still out", c.x.there(3), 3);
+        Check.holds(signed + " with the right one", signed.call(c, nonce, right) >= 0);
     }
 
     private static void theNonceIsNotOut(Signed signed) {
-        Client c = scene(signed);
-        int nonce = c.x.nonce() + 1;
-        Check.refuses(signed + " with a nonce that is not out", IllegalArgumentException.class,
-                () -> signed.call(c, 0, nonce, signed.sign(c, 0, nonce)));
-        Check.due(signed + ": the other nonce is still out", c.x.there(3), 1);
+        Client c = World.make();
+        int used = c.nonce();
+        c.takes(used);
+        for (int nonce : new int[] {used, used + 1, 0, -1, Integer.MIN_VALUE}) {
+            int sig = signed.sign(c, nonce);
+            Check.refuses(signed + " with nonce " + nonce, Refusal.ARGUMENT,
+                    () -> signed.call(c, nonce, sig));
+        }
+        Check.due(signed + ": the nonces are still out", c.x.there(3), 2);
     }
 
-    private static void lateRefusalsChangeNothingButTheNonce() {
-        List<Check.Call> refused = new ArrayList<>();
-        Client c = new Client(32);
+    /** "one, the oldest, if it is out several times": also if the call throws later on. */
+    private static void ofTwinsTheOlderGoes() {
+        Client c = new Client(SEED_OF_TWINS);
         c.open(KEY);
-        c.open(1147);
-        c.ready(0, 3, 50);
-        c.order(1, 16, 50);
-        refused.add(() -> c.order(0, 31, 5));
-        refused.add(() -> c.order(0, 1, 101));
-        refused.add(() -> c.answer(0, 0, 0));
-        refused.add(() -> c.answer(0, 2, 0));
-        refused.add(() -> c.answer(0, 3, 0));
-        refused.add(() -> c.finish(0, 0));
-        refused.add(() -> c.finish(1, 1));
-        refused.add(() -> c.finish(0, 1));
-        refused.add(() -> c.revoke(0, 0, 0));
-        refused.add(() -> c.deactivate(0, 2));
-        refused.add(() -> c.deactivate(0, -2));
-        refused.add(() -> c.rollover(0, 1147));
-        String before = told(c);
-        for (Check.Call call : refused) {
-            boolean threw = false;
-            try {
-                call.run();
-            } catch (RuntimeException e) {
-                threw = true;
-            }
-            Check.holds("the call is refused", threw);
-            Check.due("its nonce is used up", c.x.there(3), 0);
+        int twin = c.nonce();
+        c.nonce();
+        Check.due("the fourth nonce", c.nonce(), twin);
+        Check.refuses("an order of no names", Refusal.ARGUMENT,
+                () -> c.x.order(0, twin, 0, 5, c.sign(0, 2, 0, twin, 0, 5)));
+        Check.due("one went", c.x.there(3), 2);
+        for (int i = 0; i < 7; i++) {
+            c.nonce();
         }
-        Check.holds("nothing else changed", told(c).equals(before));
-    }
-
-    private static String told(Client c) {
-        StringBuilder all = new StringBuilder();
-        int[] there = {c.x.there(0), c.x.there(1), c.x.there(2), 2 * c.x.there(2), c.x.there(4)};
-        for (int kind = 0; kind < there.length; kind++) {
-            for (int k = 0; k < there[kind]; k++) {
-                all.append(' ').append(c.x.state(kind, k)).append(':');
-                for (int what = 0; what < DETAILS[kind]; what++) {
-                    all.append(c.x.detail(kind, k, what)).append(',');
-                }
-            }
-        }
-        return all.append(c.x.csr()).append(' ').append(c.x.tick(0)).toString();
+        Check.answers("the younger twin is still out", 0,
+                () -> c.x.order(0, twin, 1, 5, c.sign(0, 2, 0, twin, 1, 5)));
+        Check.refuses("there is no third twin", Refusal.ARGUMENT,
+                () -> c.x.order(0, twin, 1, 5, c.sign(0, 2, 0, twin, 1, 5)));
     }
 }

@@ -1,5 +1,8 @@
 import java.io.ByteArrayOutputStream;
 import java.math.BigInteger;
+import java.util.Arrays;
+import java.util.HashMap;
+import java.util.Map;
 
 /** What the document's terms ask for, reckoned apart from the program. */
 final class Sums {
@@ -8,6 +11,9 @@ final class Sums {
 
     private static final BigInteger FACTOR = new BigInteger("9E3779B97F4A7C15", 16);
     private static final BigInteger WRAP = BigInteger.ONE.shiftLeft(64);
+
+    /** Signing by trying is dear, so the signatures under a key are found once. */
+    private static final Map<Integer, int[]> SIGNATURES = new HashMap<>();
 
     private Sums() {}
 
@@ -25,18 +31,28 @@ final class Sums {
         return BigInteger.valueOf(b).modPow(BigInteger.valueOf(e), modulus).intValueExact();
     }
 
-    /** The lowest signature of d that is right under the key n, or -1. */
+    /** The lowest signature of d that is right under the number n, or -1. */
     static int sign(int d, int n) {
-        for (int s = 0; s < n; s++) {
-            long raised = s;
-            for (int doubled = 0; doubled < 4; doubled++) {
-                raised = raised * raised % n;
-            }
-            if (raised * s % n == d % n) {
-                return s;
-            }
+        return SIGNATURES.computeIfAbsent(n, Sums::signaturesUnder)[d % n];
+    }
+
+    /** For each rest d modulo n the lowest s whose 17th power it is, or -1. */
+    private static int[] signaturesUnder(int n) {
+        int[] lowest = new int[n];
+        Arrays.fill(lowest, -1);
+        for (int s = n - 1; s >= 0; s--) {
+            lowest[raised(s, n)] = s;
         }
-        return -1;
+        return lowest;
+    }
+
+    /** s^17 modulo n. */
+    static int raised(int s, int n) {
+        long product = 1;
+        for (int i = 0; i < 17; i++) {
+            product = product * s % n;
+        }
+        return (int) product;
     }
 
     /** The bytes of a request with a right signature. */

@@ -10,6 +10,9 @@ public final class TellingTest {
         detailsAreTold(scene());
         whatThereIsNot(scene());
         anotherWhat(scene());
+        authorizationsOfOrders();
+        whenAllIsFull(full());
+        askingChangesNothing();
         Check.end();
     }
 
@@ -39,6 +42,7 @@ public final class TellingTest {
         return c;
     }
 
+    /** "0 for another kind" */
     private static void thereCounts(Client c) {
         int[] counts = {3, 6, 10, 3, 3};
         for (int kind = 0; kind < counts.length; kind++) {
@@ -92,6 +96,7 @@ public final class TellingTest {
         }
     }
 
+    /** "there is none", "there is no such k" */
     private static void whatThereIsNot(Client c) {
         int[] behind = {3, 6, 10, 20, 3};
         for (int kind = 0; kind < behind.length; kind++) {
@@ -113,6 +118,66 @@ public final class TellingTest {
                 () -> c.x.detail(kind, k, -1));
     }
 
+    /** "4 how many authorizations, 5 .. 8 these": for each number of them. */
+    private static void authorizationsOfOrders() {
+        Client c = new Client(142);
+        c.open(10807);
+        int first = 0;
+        for (int many = 1; many <= 4; many++) {
+            int o = c.order(0, (1 << many) - 1, 50);
+            Check.due("how many", c.x.detail(1, o, 4), many);
+            for (int i = 0; i <= 4; i++) {
+                Check.due("authorization " + i + " of " + many, c.x.detail(1, o, 5 + i),
+                        i < many ? first + i : -1);
+            }
+            first += many;
+        }
+    }
+
+    /** Six accounts with two orders each, all of them with two authorizations and a certificate. */
+    private static Client full() {
+        Client c = new Client(143);
+        for (int k = 0; k < 6; k++) {
+            c.open(Sums.KEYS[k]);
+            c.certify(k, Sums.KEYS[6], 0, 1);
+            c.certify(k, Sums.KEYS[7], 14, 15);
+        }
+        return c;
+    }
+
+    private static void whenAllIsFull(Client c) {
+        int[] last = {5, 11, 23, 47, 11};
+        int[] states = {0, 2, 1, 0, 0};
+        for (int kind = 0; kind < last.length; kind++) {
+            Check.due("the last of kind " + kind, c.x.state(kind, last[kind]), states[kind]);
+            noSuch(c, kind, last[kind] + 1);
+            noSuch(c, kind, -1);
+        }
+        int[] counts = {6, 12, 24, 0, 12};
+        for (int kind = 0; kind < counts.length; kind++) {
+            Check.due("there(" + kind + ")", c.x.there(kind), counts[kind]);
+        }
+        told(c, 0, 5, Sums.KEYS[5], 2);
+        told(c, 1, 11, 5, 49152, 100, 11, 2, 22, 23, -1, -1);
+        told(c, 2, 23, 5, 15, 40);
+        told(c, 4, 11, 11, 49152, Sums.KEYS[7], 0, -1);
+    }
+
+    private static void askingChangesNothing() {
+        Refusal world = Refusal.inWorld();
+        for (int kind = -1; kind <= 5; kind++) {
+            int of = kind;
+            world.answered("there(" + kind + ")", World.make().x.there(kind), c -> c.x.there(of));
+        }
+        world.answered("state", 1, c -> c.x.state(1, World.READY_ORDER));
+        world.answered("detail", World.OTHER_KEY, c -> c.x.detail(0, World.OTHER, 0));
+        world.answered("csr", World.make().x.csr(), c -> c.x.csr());
+        world.answered("power", 8, c -> c.x.power(2, 3, 1147));
+        world.answered("digest", 1089553570, c -> c.x.digest(1, 2, 3, 4, 5));
+        world.answered("tick by nothing", 40, c -> c.x.tick(0));
+    }
+
+    /** "-1 for another what" */
     private static void anotherWhat(Client c) {
         int[] behind = {2, 9, 3, 2, 5};
         for (int kind = 0; kind < behind.length; kind++) {

@@ -6,6 +6,7 @@ public final class TextTest {
         theLowestBytesAreAppended();
         theNumberOfBytesHasBounds();
         thereIsRoomFor96();
+        eachNumberOfBytesFillsTheText();
         clearEmptiesTheText();
         csrIsTheDigestOfAllBytes();
         Check.end();
@@ -15,6 +16,7 @@ public final class TextTest {
         Check.due(what, x.csr(), Sums.digest(bytes));
     }
 
+    /** "the n lowest bytes of a long ..., the highest first" */
     private static void theLowestBytesAreAppended() {
         ChallengeAuthority x = new ChallengeAuthority(1);
         Check.holds("one byte", x.feed(0x0102030405060708L, 1));
@@ -28,14 +30,21 @@ public final class TextTest {
         Check.due("in all", x.clear(), 17);
     }
 
+    /** "when n is not 1 .. 8" */
     private static void theNumberOfBytesHasBounds() {
         ChallengeAuthority x = new ChallengeAuthority(1);
+        for (int n = 1; n <= 8; n++) {
+            Check.holds(n + " bytes", x.feed(0x0102030405060708L, n));
+            due(x, n + " bytes", Arrays.copyOfRange(new int[] {1, 2, 3, 4, 5, 6, 7, 8}, 8 - n, 8));
+            Check.due("so many", x.clear(), n);
+        }
         for (int n : new int[] {0, 9, -1, Integer.MAX_VALUE, Integer.MIN_VALUE}) {
             Check.holds("not " + n + " bytes", !x.feed(1, n));
         }
         Check.due("nothing was appended", x.clear(), 0);
     }
 
+    /** "or there would be more than 96" */
     private static void thereIsRoomFor96() {
         ChallengeAuthority x = new ChallengeAuthority(1);
         int[] all = new int[96];
@@ -56,6 +65,22 @@ public final class TextTest {
         due(x, "and nothing of before", 0, 0, 0, 0, 0, 0, 0, 5);
     }
 
+    /** "or there would be more than 96": for each n, with room for n and for one less. */
+    private static void eachNumberOfBytesFillsTheText() {
+        for (int n = 1; n <= 8; n++) {
+            Client c = new Client(1);
+            c.feed(new byte[97 - n]);
+            Check.holds(n + " where there is room for one less", !c.x.feed(-1, n));
+            Check.due("the text stays", c.x.clear(), 97 - n);
+            c.feed(new byte[96 - n]);
+            Check.holds(n + " where there is room for it", c.x.feed(-1, n));
+            int[] bytes = new int[96];
+            Arrays.fill(bytes, 96 - n, 96, 255);
+            due(c.x, "the text with " + n, bytes);
+            Check.due("the text is full", c.x.clear(), 96);
+        }
+    }
+
     private static void clearEmptiesTheText() {
         ChallengeAuthority x = new ChallengeAuthority(1);
         Check.due("at first", x.clear(), 0);
@@ -66,6 +91,7 @@ public final class TextTest {
         Check.due("and no digest", x.csr(), 0);
     }
 
+    /** "(0 .. 255 each)" */
     private static void csrIsTheDigestOfAllBytes() {
         ChallengeAuthority x = new ChallengeAuthority(1);
         Check.due("of nothing", x.csr(), 0);

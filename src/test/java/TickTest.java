@@ -1,7 +1,15 @@
 /** Promise 17. */
 public final class TickTest {
+    /** How far behind the time to expire a tick goes. */
+    private static final int[] AHEAD = {-1, 0, 1, 900};
+
     public static void main(String[] args) {
         theTimeGrows();
+        theTimeGrowsFar();
+        aPendingAuthorizationsTimeComes();
+        aValidAuthorizationsTimeComes();
+        aReadyOrdersTimeComes();
+        aPendingOrdersTimeComes();
         pendingOnesBecomeInvalid();
         validOnesBecomeExpired();
         readyOrdersEndAtTheirOwnTime();
@@ -9,6 +17,7 @@ public final class TickTest {
         Check.end();
     }
 
+    /** "n is not 0 .. 1000" */
     private static void theTimeGrows() {
         ChallengeAuthority x = new ChallengeAuthority(1);
         Check.due("by 0", x.tick(0), 0);
@@ -18,6 +27,77 @@ public final class TickTest {
             Check.refuses("by " + n, IllegalArgumentException.class, () -> x.tick(n));
         }
         Check.due("it stays", x.tick(0), 1007);
+    }
+
+    /** As far as the calls of one object go, and what is made then ends in its time. */
+    private static void theTimeGrowsFar() {
+        Client c = new Client(135);
+        c.open(10807);
+        for (int i = 1; i <= 480; i++) {
+            Check.due("by 1000 again", c.x.tick(1000), 1000 * i);
+        }
+        c.order(0, 1, 100);
+        Check.due("its end", c.x.detail(1, 0, 2), 480100);
+        c.x.tick(99);
+        Check.due("before its time", c.x.state(1, 0), 0);
+        c.x.tick(1);
+        Check.due("at its time", c.x.state(1, 0), 4);
+    }
+
+    /** "whose time to expire has come (is not later than the time)": one before, at, and behind. */
+    private static void aPendingAuthorizationsTimeComes() {
+        for (int life : new int[] {1, 2, 100}) {
+            for (int ahead : AHEAD) {
+                Client c = new Client(136);
+                c.open(10807);
+                c.x.tick(5);
+                c.order(0, 3, life);
+                c.x.tick(life + ahead);
+                String what = " at " + ahead + " of its life of " + life;
+                Check.due("authorization" + what, c.x.state(2, 0), ahead < 0 ? 0 : 2);
+                Check.due("the second one" + what, c.x.state(2, 1), ahead < 0 ? 0 : 2);
+                Check.due("order" + what, c.x.state(1, 0), ahead < 0 ? 0 : 4);
+            }
+        }
+    }
+
+    private static void aValidAuthorizationsTimeComes() {
+        for (int ahead : AHEAD) {
+            Client c = new Client(137);
+            c.open(10807);
+            c.x.tick(5);
+            c.ready(0, 1, 100);
+            c.x.tick(40 + ahead);
+            Check.due("authorization at " + ahead, c.x.state(2, 0), ahead < 0 ? 1 : 4);
+            Check.due("order at " + ahead, c.x.state(1, 0), ahead < 0 ? 1 : 4);
+        }
+    }
+
+    /** Its authorization is VALID for longer than the order is there. */
+    private static void aReadyOrdersTimeComes() {
+        for (int ahead : new int[] {-1, 0, 1}) {
+            Client c = new Client(138);
+            c.open(10807);
+            c.x.tick(5);
+            c.ready(0, 1, 20);
+            c.x.tick(20 + ahead);
+            Check.due("order at " + ahead, c.x.state(1, 0), ahead < 0 ? 1 : 4);
+            Check.due("authorization at " + ahead, c.x.state(2, 0), 1);
+        }
+    }
+
+    /** One of its authorizations is VALID for longer than the order is there. */
+    private static void aPendingOrdersTimeComes() {
+        for (int ahead : new int[] {-1, 0, 1}) {
+            Client c = new Client(139);
+            c.open(10807);
+            c.order(0, 3, 20);
+            c.prove(0, 1);
+            c.x.tick(20 + ahead);
+            Check.due("order at " + ahead, c.x.state(1, 0), ahead < 0 ? 0 : 4);
+            Check.due("its PENDING one at " + ahead, c.x.state(2, 0), ahead < 0 ? 0 : 2);
+            Check.due("its VALID one at " + ahead, c.x.state(2, 1), 1);
+        }
     }
 
     private static void pendingOnesBecomeInvalid() {
