@@ -28,6 +28,16 @@ final class Check {
         }
     }
 
+    /** Both calls give the same, be it an answer or an exception, which is told to the caller. */
+    static String same(String what, Call got, Call want) {
+        String gave = outcome(got);
+        String due = outcome(want);
+        if (!gave.equals(due)) {
+            report(what + " gave " + gave + ", due is " + due);
+        }
+        return due;
+    }
+
     static void holds(String what, boolean so) {
         if (!so) {
             report(what + " does not hold");

@@ -2,19 +2,32 @@ import java.lang.reflect.Constructor;
 import java.lang.reflect.Field;
 import java.lang.reflect.Method;
 import java.lang.reflect.Modifier;
+import java.util.Arrays;
 import java.util.Set;
 import java.util.TreeSet;
+import java.util.stream.Collectors;
 
-/** The document's face and rule 1 of LANGUAGE.md: the class shows this and nothing else. */
+/**
+ * "The public face", with what each method may throw, and rule 1 of LANGUAGE.md: the class shows
+ * this and nothing else.
+ */
 public final class FaceTest {
+    private static final String SIGNED =
+            " throws NoSuchElementException,UnsupportedOperationException,"
+                    + "IllegalArgumentException,IllegalStateException";
     private static final Set<String> FACE = Set.of(
             "int nonce()", "int power(int,int,int)", "int digest(int,int,int,int,int)",
-            "int account(int,int,int)", "int order(int,int,int,int,int)",
-            "int answer(int,int,int,int,int)", "int probe(int,int,int)",
-            "int finish(int,int,int,int)", "int publish()", "int revoke(int,int,int,int,int)",
-            "int deactivate(int,int,int,int)", "int rollover(int,int,int,int,int)",
-            "boolean feed(long,int)", "int clear()", "int csr()", "int tick(int)",
-            "int there(int)", "int state(int,int)", "int detail(int,int,int)");
+            "int account(int,int,int) throws UnsupportedOperationException,"
+                    + "IllegalArgumentException,IllegalStateException",
+            "int order(int,int,int,int,int)" + SIGNED, "int answer(int,int,int,int,int)" + SIGNED,
+            "int probe(int,int,int) throws NoSuchElementException,IllegalStateException",
+            "int finish(int,int,int,int)" + SIGNED, "int publish()",
+            "int revoke(int,int,int,int,int)" + SIGNED, "int deactivate(int,int,int,int)" + SIGNED,
+            "int rollover(int,int,int,int,int)" + SIGNED,
+            "boolean feed(long,int)", "int clear()", "int csr()",
+            "int tick(int) throws IllegalArgumentException", "int there(int)",
+            "int state(int,int) throws NoSuchElementException",
+            "int detail(int,int,int) throws NoSuchElementException");
 
     public static void main(String[] args) {
         Class<?> type = ChallengeAuthority.class;
@@ -25,9 +38,12 @@ public final class FaceTest {
             Check.holds(field + " is private", Modifier.isPrivate(field.getModifiers()));
         }
         for (Constructor<?> made : type.getDeclaredConstructors()) {
-            Check.holds(made + " is public", Modifier.isPublic(made.getModifiers()));
-            Check.due(made + " parameters", made.getParameterCount(), 1);
+            Check.holds(made + " is the face's",
+                    Modifier.isPublic(made.getModifiers())
+                            && told(made.getParameterTypes()).equals("int")
+                            && made.getExceptionTypes().length == 0);
         }
+        Check.due("constructors", type.getDeclaredConstructors().length, 1);
         for (Class<?> inside : type.getDeclaredClasses()) {
             Check.holds(inside + " is private and static",
                     Modifier.isPrivate(inside.getModifiers())
@@ -49,11 +65,14 @@ public final class FaceTest {
     }
 
     private static String told(Method method) {
-        StringBuilder all = new StringBuilder();
-        for (Class<?> one : method.getParameterTypes()) {
-            all.append(all.length() == 0 ? "" : ",").append(one.getName());
-        }
-        return method.getReturnType().getName() + " " + method.getName() + "(" + all + ")";
+        String thrown = told(method.getExceptionTypes());
+        return method.getReturnType().getName() + " " + method.getName()
+                + "(" + told(method.getParameterTypes()) + ")"
+                + (thrown.isEmpty() ? "" : " throws " + thrown);
+    }
+
+    private static String told(Class<?>... types) {
+        return Arrays.stream(types).map(Class::getSimpleName).collect(Collectors.joining(","));
     }
 
     private static void namesApart(Class<?> inside, Class<?> type) {
